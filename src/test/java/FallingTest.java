@@ -13,6 +13,7 @@ public final class FallingTest {
         shortestRow();
         leastNumbers();
         longRow();
+        full();
         check.end();
     }
 
@@ -115,6 +116,35 @@ public final class FallingTest {
         x.call(3, 3, 0);
         check.same("3 does not fall", x.isSafe(3), false);
         check.same("4 reaches it", x.isSafe(4), false);
+
+        RecursionProofs y = Check.withFunctions(1, 1);
+        y.call(0, 0, 0);
+        check.same("0 does not fall", y.isSafe(0), false);
+        check.same("1 does not reach it", y.isSafe(1), true);
+        y.call(1, 0, 2);
+        check.same("1 reaches it", y.isSafe(1), false);
+        check.same("a function made since", y.function(1), 2);
+        check.same("it falls", y.falls(2), true);
+        check.same("it is safe", y.isSafe(2), true);
+        check.same("it has no bad row", y.bad(2, -1), 0);
+    }
+
+    /** All ten functions and all twenty calls, each function but the last going on for ever. */
+    private static void full() {
+        RecursionProofs x = Check.withFunctions(1, 1, 1, 1, 1, 1, 1, 1, 1, 1);
+        for (int c = 0; c < 20; c++) {
+            x.call(c / 2, c / 2, c < 18 ? 2 - c % 2 : 2);
+        }
+        for (int f = 0; f < 10; f++) {
+            check.same("full: falls(" + f + ")", x.falls(f), f == 9);
+            check.same("full: isSafe(" + f + ")", x.isSafe(f), f == 9);
+            check.same("full: bad(" + f + ", -1)", x.bad(f, -1), f == 9 ? 0 : 1);
+            check.same("full: bad(" + f + ", 0)", x.bad(f, 0), f == 9 ? -1 : 2 * f + 1);
+            check.same("full: order(" + f + ", -1)", x.order(f, -1), f == 9 ? 1 : -1);
+            check.same("full: reached(" + f + ")", x.reached(f), 1 << f);
+            check.same("full: graphs(" + f + ", " + f + ")", x.graphs(f, f), f == 9 ? 1 : 2);
+        }
+        check.same("full: product(19, 1)", x.product(19, 1), 2);
     }
 
     private static void shortestRow() {

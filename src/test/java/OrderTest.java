@@ -90,6 +90,13 @@ public final class OrderTest {
         due("without the last call", x, 3, 2, 1);
         x.call(0, 0, Check.known("1000", "0100", "0010", "0001"));
         none("one stays open", x);
+
+        RecursionProofs y = Check.withFunctions(2);
+        y.call(0, 0, Check.known("10", "01"));
+        y.call(0, 0, Check.known("20", "01"));
+        none("the first call stays open", y);
+        y.call(0, 0, Check.known("10", "02"));
+        none("though both places are taken", y);
     }
 
     private static void stuck() {
@@ -100,5 +107,9 @@ public final class OrderTest {
         x.undo();
         x.call(0, 0, Check.known("10", "01"));
         none("0 is taken, the other call stays open", x);
+
+        RecursionProofs y = Check.withFunctions(4);
+        y.call(0, 0, Check.known("0222", "2022", "2202", "2220"));
+        none("every value but those from a place to itself", y);
     }
 }
