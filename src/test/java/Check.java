@@ -6,6 +6,14 @@ final class Check {
 
     private int done;
     private int wrong;
+    private int sentences;
+    private String sentence = "";
+
+    /** The document's words that the answers from here on are held against. */
+    void sentence(String words) {
+        sentences++;
+        sentence = "\"" + words + "\": ";
+    }
 
     void same(String what, long got, long due) {
         done++;
@@ -48,11 +56,12 @@ final class Check {
 
     private void report(String text) {
         wrong++;
-        System.out.println(text);
+        System.out.println(sentence + text);
     }
 
     void end() {
-        System.out.println(done + " answers, " + wrong + " of them wrong");
+        String held = sentences == 0 ? "" : sentences + " sentences, ";
+        System.out.println(held + done + " answers, " + wrong + " of them wrong");
         if (wrong != 0 || done == 0) {
             System.exit(1);
         }
@@ -83,6 +92,15 @@ final class Check {
         for (int p : places) {
             x.function(p);
         }
+        return x;
+    }
+
+    /** Exactly 800 graphs from one function in 3 calls; functions 1 to 9 are in none of these. */
+    static RecursionProofs withEightHundredFromOne() {
+        RecursionProofs x = withFunctions(4, 1, 1, 1, 1, 1, 1, 1, 1, 1);
+        x.call(0, 0, known("0200", "0000", "0001", "0010"));
+        x.call(0, 0, known("2000", "2020", "0200", "0011"));
+        x.call(0, 0, known("0011", "0120", "0100", "0000"));
         return x;
     }
 

@@ -10,6 +10,7 @@ import java.util.TreeSet;
 public final class ModelTest {
     private static final int RUNS = 1500;
     private static final int CALLS_OF_A_RUN = 512;
+    private static final int CALLS_OF_A_QUESTION = 64;
     private static final int WORDS_TRIED = 20000;
 
     private static final Check check = new Check();
@@ -242,13 +243,13 @@ public final class ModelTest {
 
         final int number;
         final Random random;
-        final RecursionProofs x = new RecursionProofs();
+        final RecursionProofs asked = new RecursionProofs();
         final Model model = new Model();
         final int density;
         final int twos;
         final int mostPlaces;
         final int mostCalls;
-        int done;
+        int used;
 
         Run(int number) {
             this.number = number;
@@ -264,7 +265,7 @@ public final class ModelTest {
             for (int f = 0; f < functions; f++) {
                 function();
             }
-            while (done < CALLS_OF_A_RUN) {
+            while (used < CALLS_OF_A_RUN - CALLS_OF_A_QUESTION) {
                 int kind = random.nextInt(40);
                 if (kind < 8 && model.calls.size() < mostCalls) {
                     call();
@@ -276,11 +277,17 @@ public final class ModelTest {
                     ask(random.nextInt(8));
                 }
             }
+            check.same("run " + number + " is no longer than promised", used <= CALLS_OF_A_RUN, true);
+        }
+
+        /** Each use of the object is one call. */
+        RecursionProofs x() {
+            used++;
+            return asked;
         }
 
         String say(String what) {
-            done++;
-            return "run " + number + ", call " + done + ": " + what;
+            return "run " + number + ", call " + (used + 1) + ": " + what;
         }
 
         int someFunction() {
@@ -299,11 +306,11 @@ public final class ModelTest {
             int places = random.nextInt(20) == 0 ? random.nextInt(7) - 1 : 1 + random.nextInt(mostPlaces);
             String what = say("function(" + places + ")");
             if (places < 1 || places > 4) {
-                check.argument(what, () -> x.function(places));
+                check.argument(what, () -> x().function(places));
             } else if (model.places.size() == 10) {
-                check.state(what, () -> x.function(places));
+                check.state(what, () -> x().function(places));
             } else {
-                check.same(what, x.function(places), model.places.size());
+                check.same(what, x().function(places), model.places.size());
                 model.places.add(places);
             }
         }
@@ -327,11 +334,11 @@ public final class ModelTest {
             int known = someKnown();
             String what = say("call(" + from + ", " + to + ", " + known + ")");
             if (!model.has(from) || !model.has(to)) {
-                check.index(what, () -> x.call(from, to, known));
+                check.index(what, () -> x().call(from, to, known));
             } else if (model.calls.size() == 20) {
-                check.state(what, () -> x.call(from, to, known));
+                check.state(what, () -> x().call(from, to, known));
             } else {
-                check.same(what, x.call(from, to, known), model.calls.size());
+                check.same(what, x().call(from, to, known), model.calls.size());
                 model.calls.add(new Call(from, to,
                         Model.values(known, model.places.get(from), model.places.get(to))));
                 model.changed();
@@ -339,7 +346,7 @@ public final class ModelTest {
         }
 
         void undo() {
-            check.same(say("undo()"), x.undo(), !model.calls.isEmpty());
+            check.same(say("undo()"), x().undo(), !model.calls.isEmpty());
             if (!model.calls.isEmpty()) {
                 model.calls.remove(model.calls.size() - 1);
                 model.changed();
@@ -368,21 +375,21 @@ public final class ModelTest {
                 Call call = model.calls.get(c);
                 due = what == 0 ? call.from : what == 1 ? call.to : Model.bits(call.known);
             }
-            check.same(say("told(" + c + ", " + what + ")"), x.told(c, what), due);
+            check.same(say("told(" + c + ", " + what + ")"), x().told(c, what), due);
             int about = what == 0 ? model.places.size() : what == 1 ? model.calls.size() : -1;
-            check.same(say("about(" + what + ")"), x.about(what), about);
+            check.same(say("about(" + what + ")"), x().about(what), about);
         }
 
         void reached(int f) {
-            check.same(say("reached(" + f + ")"), x.reached(f), model.has(f) ? model.reached(f) : -1);
+            check.same(say("reached(" + f + ")"), x().reached(f), model.has(f) ? model.reached(f) : -1);
         }
 
         void order(int f) {
             List<Integer> due = model.has(f) ? model.order(f) : null;
-            check.same(say("order(" + f + ", -1)"), x.order(f, -1), due == null ? -1 : due.size());
+            check.same(say("order(" + f + ", -1)"), x().order(f, -1), due == null ? -1 : due.size());
             int i = someIndex(4);
             if (i != -1) {
-                check.same(say("order(" + f + ", " + i + ")"), x.order(f, i),
+                check.same(say("order(" + f + ", " + i + ")"), x().order(f, i),
                         due == null || i < 0 || i >= due.size() ? -1 : due.get(i));
             }
             orders += due != null && due.size() > 1 ? 1 : 0;
@@ -400,7 +407,7 @@ public final class ModelTest {
                 row ^= (long) c << 5 * k;
                 at = model.calls.get(c).to;
             }
-            check.same(say("product(" + row + ", " + many + ")"), x.product(row, many),
+            check.same(say("product(" + row + ", " + many + ")"), x().product(row, many),
                     model.product(row, many));
         }
 
@@ -408,25 +415,25 @@ public final class ModelTest {
             String what = "(" + from + ", " + to;
             int k = someIndex(5);
             if (!model.has(from) || !model.has(to)) {
-                check.same(say("graphs" + what + ")"), x.graphs(from, to), -1);
-                check.index(say("graph" + what + ", " + k + ")"), () -> x.graph(from, to, k));
+                check.same(say("graphs" + what + ")"), x().graphs(from, to), -1);
+                check.index(say("graph" + what + ", " + k + ")"), () -> x().graph(from, to, k));
                 return;
             }
             model.gather();
             if (model.tooMany) {
                 tooManySeen++;
-                check.unsupported(say("graphs" + what + ")"), () -> x.graphs(from, to));
-                check.unsupported(say("graph" + what + ", 0)"), () -> x.graph(from, to, 0));
+                check.unsupported(say("graphs" + what + ")"), () -> x().graphs(from, to));
+                check.unsupported(say("graph" + what + ", 0)"), () -> x().graph(from, to, 0));
                 return;
             }
             Long[] due = model.graphs.get(10 * from + to).toArray(new Long[0]);
-            check.same(say("graphs" + what + ")"), x.graphs(from, to), due.length);
+            check.same(say("graphs" + what + ")"), x().graphs(from, to), due.length);
             int n = random.nextBoolean() || due.length == 0 ? k : random.nextInt(due.length);
             String one = say("graph" + what + ", " + n + ")");
             if (n < 0 || n >= due.length) {
-                check.index(one, () -> x.graph(from, to, n));
+                check.index(one, () -> x().graph(from, to, n));
             } else {
-                check.same(one, x.graph(from, to, n), due[n].intValue());
+                check.same(one, x().graph(from, to, n), due[n].intValue());
             }
         }
 
@@ -434,11 +441,11 @@ public final class ModelTest {
             String what = say("falls(" + f + ")");
             model.gather();
             if (!model.has(f)) {
-                check.index(what, () -> x.falls(f) ? 1 : 0);
+                check.index(what, () -> x().falls(f) ? 1 : 0);
             } else if (model.tooMany) {
-                check.unsupported(what, () -> x.falls(f) ? 1 : 0);
+                check.unsupported(what, () -> x().falls(f) ? 1 : 0);
             } else {
-                check.same(what, x.falls(f), model.falls(f));
+                check.same(what, x().falls(f), model.falls(f));
             }
         }
 
@@ -446,11 +453,11 @@ public final class ModelTest {
             String what = say("isSafe(" + f + ")");
             model.gather();
             if (!model.has(f)) {
-                check.index(what, () -> x.isSafe(f) ? 1 : 0);
+                check.index(what, () -> x().isSafe(f) ? 1 : 0);
             } else if (model.tooMany) {
-                check.unsupported(what, () -> x.isSafe(f) ? 1 : 0);
+                check.unsupported(what, () -> x().isSafe(f) ? 1 : 0);
             } else {
-                check.same(what, x.isSafe(f), model.isSafe(f));
+                check.same(what, x().isSafe(f), model.isSafe(f));
             }
         }
 
@@ -458,14 +465,14 @@ public final class ModelTest {
             String what = say("bad(" + f + ", ..)");
             model.gather();
             if (!model.has(f)) {
-                check.same(what, x.bad(f, -1), -1);
-                check.same(what, x.bad(f, 0), -1);
+                check.same(what, x().bad(f, -1), -1);
+                check.same(what, x().bad(f, 0), -1);
             } else if (model.tooMany) {
-                check.unsupported(what, () -> x.bad(f, -1));
-                check.unsupported(what, () -> x.bad(f, 0));
+                check.unsupported(what, () -> x().bad(f, -1));
+                check.unsupported(what, () -> x().bad(f, 0));
             } else if (model.falls(f)) {
-                check.same(what, x.bad(f, -1), 0);
-                check.same(what, x.bad(f, 0), -1);
+                check.same(what, x().bad(f, -1), 0);
+                check.same(what, x().bad(f, 0), -1);
             } else {
                 badRow(f, what);
             }
@@ -473,7 +480,7 @@ public final class ModelTest {
 
         void badRow(int f, String what) {
             List<Integer> due = model.badRow(f);
-            int length = x.bad(f, -1);
+            int length = x().bad(f, -1);
             longestBad = Math.max(longestBad, length);
             if (due == null) {
                 check.same(what + " is long", length > 2, true);
@@ -484,17 +491,17 @@ public final class ModelTest {
             }
             check.same(what + " length", length, due.size());
             for (int i = 0; i < due.size(); i++) {
-                check.same(what + " call " + i, x.bad(f, i), due.get(i));
+                check.same(what + " call " + i, x().bad(f, i), due.get(i));
             }
-            check.same(what + " behind the last", x.bad(f, due.size()), -1);
-            check.same(what + " below", x.bad(f, -2), -1);
+            check.same(what + " behind the last", x().bad(f, due.size()), -1);
+            check.same(what + " below", x().bad(f, -2), -1);
         }
 
         /** A row too long for the model to find must at least be one that shows it. */
         void shows(int f, int length, String what) {
             int[] calls = new int[length];
             for (int i = 0; i < length; i++) {
-                calls[i] = x.bad(f, i);
+                calls[i] = x().bad(f, i);
             }
             int p = model.places.get(f);
             int bits = model.product(Check.row(calls), length);
