@@ -338,7 +338,7 @@ public final class RecursionProofs {
                     keep(program.known[c], program.to[c], NONE, c);
                 }
             }
-            for (int row = start[f]; row < count && !tooMany; row++) {
+            for (int row = start[f]; row < MOST_GRAPHS && row < count && !tooMany; row++) {
                 for (int c = 0; c < program.calls; c++) {
                     if (program.from[c] == end[row]) {
                         keep(Graph.join(bits[row], program.known[c]), program.to[c], row, c);

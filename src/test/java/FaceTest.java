@@ -43,7 +43,21 @@ public final class FaceTest {
             check.same("field " + f.getName() + " is private",
                     Modifier.isPrivate(f.getModifiers()), !f.getName().equals("NONE"));
         }
+        constant(check, face);
         check.end();
+    }
+
+    private static void constant(Check check, Class<?> face) {
+        int made = 0;
+        for (Field f : face.getFields()) {
+            made++;
+            check.same("the constant is NONE", f.getName().equals("NONE"), true);
+            check.same("an int", f.getType() == int.class, true);
+            check.same("static and final", Modifier.isStatic(f.getModifiers())
+                    && Modifier.isFinal(f.getModifiers()), true);
+        }
+        check.same("one constant", made, 1);
+        check.same("NONE", RecursionProofs.NONE, -1);
     }
 
     private static String written(Method m) {
